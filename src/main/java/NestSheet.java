@@ -255,7 +255,7 @@ public final class NestSheet {
         }
 
         static Value whole(long word) {
-            return leaf(WHOLE, word);
+            return new Value(WHOLE, word, null, 1, 0, 0, 0);
         }
 
         static Value none() {
@@ -267,7 +267,7 @@ public final class NestSheet {
         }
 
         static Value found(int kind) {
-            return failure(kind, 0, UNPLACED);
+            return new Value(FAILURE, kind, null, 0, 0, 0, UNPLACED);
         }
 
         /** The array of these values, which the caller gives away; or the failure SIZE. */
@@ -565,25 +565,29 @@ public final class NestSheet {
             return Long.compare(keyA, keyB);
         }
 
+        static long lesser(long a, long b) {
+            return isNan(a) || isNan(b) ? NAN : compare(a, b) < 0 ? a : b;
+        }
+
+        static long greater(long a, long b) {
+            return isNan(a) || isNan(b) ? NAN : compare(a, b) > 0 ? a : b;
+        }
+
         /** A whole against a real by their exact numbers: 0 where these are one. */
         static int mixed(long whole, long bits) {
-            if (isNan(bits)) {
-                return -1;
-            }
             int power = ((int) (bits >>> 52) & 2047) - BIAS;
             if (power >= 63 && bits != MINUS_2_TO_63) {
-                return bits < 0L ? 1 : -1;
+                return bits < 0L && (bits & MAGNITUDE) <= INFINITE ? 1 : -1;
             }
-            long cut = cast(bits);
+            long m = (bits & FRACTION) | (1L << 52);
+            long size = power < 0 ? 0L : power <= 52 ? m >>> (52 - power) : m << (power - 52);
+            long cut = bits < 0L ? -size : size;
             if (whole != cut) {
                 return whole < cut ? -1 : 1;
             }
-            boolean exact = power >= 52 || isZero(bits)
+            boolean exact = power >= 52 || (bits & MAGNITUDE) == 0L
                 || (power >= 0 && (bits & (FRACTION >>> power)) == 0L);
-            if (exact) {
-                return 0;
-            }
-            return bits < 0L ? 1 : -1;
+            return exact ? 0 : bits < 0L ? 1 : -1;
         }
     }
 
@@ -906,7 +910,7 @@ public final class NestSheet {
         }
 
         boolean onLoop(int cell) {
-            return reaches(cell, cell);
+            return named(cell) && (reach[cell] >>> cell & 1) == 1;
         }
 
         /** Whether a cell has to be worked out before its value is known. */
@@ -1361,7 +1365,22 @@ public final class NestSheet {
             }
             long a = x.sort == Value.WHOLE ? Real.nearest(x.word) : x.word;
             long b = y.sort == Value.WHOLE ? Real.nearest(y.word) : y.word;
-            return Value.leaf(Value.REAL, reals(op, a, b));
+            switch (op) {
+                case SUM:
+                    return Value.leaf(Value.REAL, Real.sum(a, b));
+                case DIFFERENCE:
+                    return Value.leaf(Value.REAL, Real.sum(a, Real.negated(b)));
+                case PRODUCT:
+                    return Value.leaf(Value.REAL, Real.product(a, b));
+                case QUOTIENT:
+                    return Value.leaf(Value.REAL, Real.quotient(a, b));
+                case REST:
+                    return Value.leaf(Value.REAL, Real.rest(a, b));
+                case LESSER:
+                    return Value.leaf(Value.REAL, Real.lesser(a, b));
+                default:
+                    return Value.leaf(Value.REAL, Real.greater(a, b));
+            }
         }
 
         private static Value arrays(int op, Value x, Value y) {
@@ -1386,12 +1405,14 @@ public final class NestSheet {
             int order;
             if ((x.sort == Value.SIGN) != (y.sort == Value.SIGN)) {
                 return Value.found(Value.KIND);
-            } else if (x.sort == Value.WHOLE && y.sort == Value.REAL) {
+            } else if (x.sort == Value.REAL && y.sort == Value.REAL) {
+                order = Real.compare(x.word, y.word);
+            } else if (y.sort == Value.REAL) {
                 order = Real.mixed(x.word, y.word);
-            } else if (x.sort == Value.REAL && y.sort == Value.WHOLE) {
+            } else if (x.sort == Value.REAL) {
                 order = -Real.mixed(y.word, x.word);
             } else {
-                order = Value.compare(x, y);
+                order = Long.compare(x.word, y.word);
             }
             boolean holds = op == SAME ? order == 0 : op == LESS ? order < 0 : order <= 0;
             return Value.whole(holds ? 1L : 0L);
@@ -1414,27 +1435,6 @@ public final class NestSheet {
                 default:
                     return Value.whole(Math.max(a, b));
             }
-        }
-
-        private static long reals(int op, long a, long b) {
-            switch (op) {
-                case SUM:
-                    return Real.sum(a, b);
-                case DIFFERENCE:
-                    return Real.sum(a, Real.negated(b));
-                case PRODUCT:
-                    return Real.product(a, b);
-                case QUOTIENT:
-                    return Real.quotient(a, b);
-                case REST:
-                    return Real.rest(a, b);
-                default:
-                    break;
-            }
-            if (a == Real.NAN || b == Real.NAN) {
-                return Real.NAN;
-            }
-            return (Real.compare(a, b) < 0) == (op == LESSER) ? a : b;
         }
     }
 
@@ -1542,9 +1542,9 @@ public final class NestSheet {
                 case 4:
                     return turned(x);
                 case 7:
-                    return sorted(x);
+                    return picked(x, ranked(x));
                 case 8:
-                    return numbers(x);
+                    return numbers(ranked(x));
                 default:
                     return distinct(x);
             }
@@ -1618,8 +1618,7 @@ public final class NestSheet {
             return order;
         }
 
-        private static Value sorted(Value x) {
-            int[] order = ranked(x);
+        private static Value picked(Value x, int[] order) {
             Value[] made = new Value[order.length];
             for (int i = 0; i < made.length; i++) {
                 made[i] = x.item(order[i]);
@@ -1627,8 +1626,7 @@ public final class NestSheet {
             return Value.array(made);
         }
 
-        private static Value numbers(Value x) {
-            int[] order = ranked(x);
+        private static Value numbers(int[] order) {
             Value[] made = new Value[order.length];
             for (int i = 0; i < made.length; i++) {
                 made[i] = Value.whole(order[i]);
@@ -1646,7 +1644,9 @@ public final class NestSheet {
                 }
             }
             Value[] made = new Value[count];
-            System.arraycopy(kept, 0, made, 0, count);
+            for (int i = 0; i < made.length && i < kept.length; i++) {
+                made[i] = kept[i];
+            }
             return Value.array(made);
         }
 
@@ -1783,8 +1783,11 @@ public final class NestSheet {
                     writeWhole(value.word);
                     return;
                 default:
-                    break;
+                    writeArray(value);
             }
+        }
+
+        private void writeArray(Value value) {
             put('[');
             for (int i = 0; i < value.count(); i++) {
                 if (i > 0) {
