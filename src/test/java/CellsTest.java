@@ -205,6 +205,22 @@ public final class CellsTest {
         Due.is("FULL", sheet.x.ask(3), FULL);
     }
 
+    /** 39999 steps of all are not yet too many for another ask(), 40000 are. */
+    private static void edgeOf40000(int all, String rest, int due) {
+        Sheet sheet = new Sheet().with("B0=r0 32", "B1=r1 5 B0", "A0=7");
+        String most = "C0=[" + "s1B1".repeat(11) + "s1B0".repeat(3) + "D7]";
+        sheet.ask("B1");
+        for (int i = 0; i < 19; i++) {
+            sheet.with(most);
+            Due.is("2000 more", sheet.x.ask(16), 3);
+        }
+        Due.is("so far", sheet.x.steps(1), 241 + 19 * 2000);
+        sheet.with("C1=[" + "s1B1".repeat(10) + rest + "]");
+        Due.is("the rest", sheet.x.ask(17), 3);
+        Due.is("all", sheet.x.steps(1), all);
+        Due.is("one more at " + all, sheet.x.ask(0), due);
+    }
+
     /** Cells that need one another, each formula as deep as it may be. */
     private static void deep() {
         Sheet sheet = new Sheet();
@@ -229,6 +245,8 @@ public final class CellsTest {
         tooMany();
         edgeOf2000();
         spent();
+        edgeOf40000(39999, "s1B0 1 1", 0);
+        edgeOf40000(40000, "s1B0D7D7D7", FULL);
         deep();
         Due.end("CellsTest");
     }

@@ -135,6 +135,7 @@ public final class FormulasTest {
         fails("[1)", 2);
         fails(NINES + "9", 18);
         fails(NINES + "99999", 18);
+        fails("[" + NINES + "9]", 19);
         fails(".5", 0);
         fails("1.", 2);
         fails("1. 5", 2);
