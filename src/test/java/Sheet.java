@@ -86,4 +86,32 @@ final class Sheet {
     static String real(double d) {
         return String.format("#%016x", Double.doubleToLongBits(d));
     }
+
+    /** All that the object tells of itself. It goes through undo() and redo() and takes the tape: the last look. */
+    String all() {
+        StringBuilder text = new StringBuilder();
+        for (int what = 0; what < 8; what++) {
+            text.append(x.told(what)).append(' ');
+        }
+        text.append(x.number()).append(" out ");
+        for (int i = 0; i < 24; i++) {
+            text.append(x.out(i)).append(' ');
+        }
+        text.append("top ").append(x.top()).append(' ').append(x.told(1)).append(' ').append(x.number());
+        text.append(" steps ").append(x.steps(0)).append(' ').append(x.steps(1)).append(" stale ").append(x.stale());
+        for (int cell : new int[] {0, 1, 2, 31}) {
+            text.append(" cell ").append(text(cell)).append(' ').append(x.worked(cell)).append(' ');
+            text.append(x.needs(0, cell));
+        }
+        text.append(" redo ");
+        for (int cell = x.redo(); cell >= 0; cell = x.redo()) {
+            text.append(cell).append(' ').append(text(cell)).append(' ');
+        }
+        text.append(" undo ");
+        for (int cell = x.undo(); cell >= 0; cell = x.undo()) {
+            text.append(cell).append(' ').append(text(cell)).append(' ');
+        }
+        text.append(" tape ").append(x.type('7', 1)).append(' ').append(x.enter(30)).append(' ').append(text(30));
+        return text.toString();
+    }
 }
