@@ -517,10 +517,14 @@ public final class CallBoundsTest {
     }
 
     private static void printed(String due, String... lines) {
-        Sheet sheet = Due.asked(lines);
-        Due.is("print() of " + String.join(", ", lines), sheet.x.print(), due.length());
         StringBuilder text = new StringBuilder();
+        Sheet sheet = null;
         for (int i = 0; i < due.length(); i++) {
+            // A new one now and then: an object is used for 512 calls.
+            if (i % 400 == 0) {
+                sheet = Due.asked(lines);
+                Due.is("print() of " + String.join(", ", lines), sheet.x.print(), due.length());
+            }
             text.append((char) sheet.x.out(i));
         }
         Due.is("what is printed of " + String.join(", ", lines), text.toString(), due);

@@ -209,7 +209,7 @@ public final class CellsTest {
     private static void edgeOf40000(int all, String rest, int due) {
         Sheet sheet = new Sheet().with("B0=r0 32", "B1=r1 5 B0", "A0=7");
         String most = "C0=[" + "s1B1".repeat(11) + "s1B0".repeat(3) + "D7]";
-        sheet.ask("B1");
+        sheet.x.ask(9);
         for (int i = 0; i < 19; i++) {
             sheet.with(most);
             Due.is("2000 more", sheet.x.ask(16), 3);

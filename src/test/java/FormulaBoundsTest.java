@@ -315,8 +315,8 @@ public final class FormulaBoundsTest {
 
     private static boolean ended(String begun) {
         String text = begun;
-        Sheet sheet = new Sheet();
         for (int i = 0; i < 60; i++) {
+            Sheet sheet = new Sheet();
             if (sheet.enter(0, text) == 0) {
                 return true;
             }

@@ -157,6 +157,63 @@ public final class OpBoundsTest {
         Due.value("n5 n0 1", real(-1.0));
     }
 
+    /** "as doubles go" at their ends: the largest, the smallest, and what is just beyond each */
+    private static void endsOfDoubles() {
+        double large = 0x1p1023;
+        double unit = 0x1p-52;
+        double smallest = Double.MIN_VALUE;
+        double largest = Double.MAX_VALUE;
+        double half = large * unit * 0.5;
+        endOf("C0", unit);
+        endOf("C2", smallest);
+        endOf("C3", largest);
+        endOf("C4", half);
+        endOf("a0 C3 C4", largest + half);
+        endOf("a0 C3 a2 C4 0.99999999999999", largest + half * 0.99999999999999);
+        endOf("a0 C3 a1 C4 a2 C4 C0", largest + (half - half * unit));
+        endOf("a0 C3 C3", largest + largest);
+        endOf("a2 C3 1.00000000000001", largest * 1.00000000000001);
+        endOf("a2 C3 0.99999999999999", largest * 0.99999999999999);
+        endOf("a3 C3 0.5", largest / 0.5);
+        endOf("a1 n0 C3 C4", -largest - half);
+        endOf("a2 C2 0.5", smallest * 0.5);
+        endOf("a2 C2 0.50000000000001", smallest * 0.50000000000001);
+        endOf("a2 C2 1.5", smallest * 1.5);
+        endOf("a2 C2 1.49999999999999", smallest * 1.49999999999999);
+        endOf("a2 n0 C2 0.5", -smallest * 0.5);
+        endOf("a3 C2 2", smallest / 2);
+        endOf("a3 C2 1.99999999999999", smallest / 1.99999999999999);
+        endOf("a3 C2 C3", smallest / largest);
+        endOf("a3 C3 C2", largest / smallest);
+        endOf("a1 a2 2.0 C1 C2", 2.0 * (1.0 / large) - smallest);
+        endOf("a0 C2 C2", smallest + smallest);
+        endOf("a1 C2 C2", 0.0);
+        endOf("a0 n0 C2 C2", 0.0);
+        endOf("a4 C3 C2", largest % smallest);
+        endOf("a4 C3 3", largest % 3);
+        endOf("a4 C3 a2 3.0 C2", largest % (3.0 * smallest));
+        endOf("a4 n0 C3 C4", -largest % half);
+        endOf("a4 C2 C3", smallest % largest);
+        endOf("a5 C2 0", 0.0);
+        endOf("a6 n0 C2 0", 0.0);
+        endOf("n3 C2", 0.0);
+        endOf("n3 n0 C2", -1.0);
+        endOf("n3 C3", largest);
+        Due.is("n4", ends().with("A0=[n4 C2 n4 C3 n4 n0 C3]").ask("A0"), "[0 " + MAX + " " + MIN + "]");
+        Due.is("c1", ends().with("A0=[c1 0 C2 c1 n0 C2 0 c1 C2 1 c0 C2 0]").ask("A0"), "[1 1 1 0]");
+    }
+
+    /** C0 is 2 to -52, C2 the smallest double above 0, C3 the largest one, C4 half of its last bit. */
+    private static Sheet ends() {
+        return new Sheet().with("B0=f0a2 1.0 r1 31 2.0", "B1=f0a2 1.0 r1 32 B0", "B2=a2 B1 B0",
+            "C0=a3 1.0 a2 4194304.0 1073741824", "C1=a3 1.0 B2", "C2=a2 C1 a2 2.0 C0", "C3=a2 B2 a1 2.0 C0",
+            "C4=a2 a2 B2 C0 0.5");
+    }
+
+    private static void endOf(String formula, double due) {
+        Due.is(formula, ends().with("A0=" + formula).ask("A0"), real(due));
+    }
+
     /** "KIND: a SIGN in others": of a SIGN with any LEAF; no matter on which side */
     private static void signsInPairs() {
         for (String other : new String[] {"0", "1", "1.5", "'a"}) {
@@ -623,6 +680,7 @@ public final class OpBoundsTest {
         wholes();
         doubles();
         nearest();
+        endsOfDoubles();
         signsInPairs();
         comparisons();
         n0n1();

@@ -1,6 +1,9 @@
 import java.util.Random;
 
-/** Runs of calls by chance (from a fixed seed), each answer against that of the Oracle. */
+/**
+ * Runs of calls by chance (from a fixed seed), each answer against that of the Oracle. They go on beyond the 512 calls
+ * that an object is promised to be used for: nothing in the program ends there, and more comes to pass.
+ */
 public final class OracleTest {
     private static final String[] OPS = {
         "a0", "a1", "a2", "a3", "a4", "a5", "a6", "c0", "c1", "c2", "n0", "n1", "n2", "n3", "n4", "n5", "n6", "n7",

@@ -31,7 +31,7 @@ public final class RoomTest {
         long before = used();
         NestSheet x = new NestSheet();
         int calls = 0;
-        for (int i = 0; calls < 512; i++) {
+        for (int i = 0; calls < 490; i++) {
             int cell = Math.min(i, texts.length - 1);
             type(x, texts[cell]);
             x.enter(cell);

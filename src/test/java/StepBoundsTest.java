@@ -309,7 +309,7 @@ public final class StepBoundsTest {
         for (int all = 39999; all <= 40000; all++) {
             Sheet sheet = new Sheet().with("A0=7", "A1=[D7]", "A2=A2", "A3=A0", "B0=r0 32", "B1=r1 5 B0");
             Due.is("a remembered one", sheet.ask("A0"), "7");
-            sheet.ask("B1");
+            sheet.x.ask(9);
             spend(sheet, all - sheet.x.steps(1));
             Due.is("so many in all", sheet.x.steps(1), all);
             boolean full = all == 40000;
@@ -332,8 +332,9 @@ public final class StepBoundsTest {
         int left = steps;
         while (left > 0) {
             int many = Math.min(11, (left - 2) / 171);
-            String text = many > 0 ? "[" + "s1B1".repeat(many) + "]" : left >= 40 ? "[s1B0]" : "D7";
-            int made = many > 0 ? 2 + 171 * many : left >= 40 ? 40 : 1;
+            int few = Math.min(32, (left - 2) / 3);
+            String text = many > 0 ? "[" + "s1B1".repeat(many) + "]" : few > 0 ? "[" + "D7".repeat(few) + "]" : "D7";
+            int made = many > 0 ? 2 + 171 * many : few > 0 ? 2 + 3 * few : 1;
             sheet.with("C0=" + text);
             sheet.x.ask(16);
             Due.is("steps of " + text, sheet.x.steps(0), made);

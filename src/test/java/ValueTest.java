@@ -143,7 +143,6 @@ public final class ValueTest {
             "A3=[A1 A1 A1 A1 A1 i1 A1 27 A0 A0 A0 A0 A0 A0]");
         Due.is("ask", sheet.x.ask(2), 3);
         Due.is("in", sheet.x.told(2), 1 + 166 + 28);
-        Due.is("print", sheet.x.print(), sheet.shown().length());
         Due.is("ask", sheet.x.ask(3), 3);
         Due.is("in", sheet.x.told(2), 1 + 5 * 33 + 28 + 6);
         int one = 20;
