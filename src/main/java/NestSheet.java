@@ -281,7 +281,7 @@ public final class NestSheet {
                 }
             }
             if (items.length > WIDEST || in > MOST || depth > DEEPEST) {
-                return found(SIZE);
+                return new Value(FAILURE, SIZE, null, 0, 0, 0, UNPLACED);
             }
             return new Value(ARRAY, 0L, items, in, depth, 0, 0);
         }

@@ -192,6 +192,11 @@ public final class CallBoundsTest {
                 Due.is("far ahead", sheet.x.formula(cell, Integer.MIN_VALUE), NONE);
                 Due.is("far behind", sheet.x.formula(cell, Integer.MAX_VALUE), NONE);
             }
+            NestSheet x = new NestSheet();
+            Due.is("how many bytes without a formula", x.formula(cell, -1), 0);
+            for (int i : new int[] {-2, 0, 1, Integer.MIN_VALUE, Integer.MAX_VALUE}) {
+                Due.is("byte " + i + " without a formula", x.formula(cell, i), NONE);
+            }
         }
     }
 
@@ -239,6 +244,36 @@ public final class CallBoundsTest {
         Due.is("undo", sheet.x.undo(), STATE);
     }
 
+    /** How many CHANGES a call makes of a sheet with two: how many more can be undone behind it. */
+    private static int changesBy(ToIntFunction<Sheet> call) {
+        Sheet sheet = new Sheet().with("A0=7", "A1=A0");
+        call.applyAsInt(sheet);
+        int count = 0;
+        while (sheet.x.undo() >= 0) {
+            count++;
+        }
+        return count - 2;
+    }
+
+    /** Terms 4: "CHANGES are each enter() that was accepted and each clear() of a CELL with a formula." */
+    private static void whatIsAChange() {
+        Due.is("an enter()", changesBy(sheet -> sheet.enter(2, "8")), 1);
+        Due.is("an enter() of another text", changesBy(sheet -> sheet.enter(0, "8")), 1);
+        Due.is("an enter() of the text that stands", changesBy(sheet -> sheet.enter(0, "7")), 1);
+        Due.is("an enter() of no formula", changesBy(sheet -> sheet.enter(0, "x")), 0);
+        Due.is("an enter() of nothing", changesBy(sheet -> sheet.enter(0, "")), 0);
+        Due.is("an enter() that is refused", changesBy(sheet -> sheet.enter(32, "8")), 0);
+        Due.is("a clear()", changesBy(sheet -> sheet.x.clear(0)), 1);
+        Due.is("two of them", changesBy(sheet -> sheet.x.clear(0) + sheet.x.clear(0)), 1);
+        Due.is("a clear() without a formula", changesBy(sheet -> sheet.x.clear(2)), 0);
+        Due.is("a clear() that is refused", changesBy(sheet -> sheet.x.clear(32)), 0);
+        Due.is("an undo()", changesBy(sheet -> sheet.x.undo()), -1);
+        Due.is("an undo() and a redo()", changesBy(sheet -> sheet.x.undo() + sheet.x.redo()), 0);
+        Due.is("a type()", changesBy(sheet -> sheet.type("7")), 0);
+        Due.is("an ask()", changesBy(sheet -> sheet.x.ask(1)), 0);
+        Due.is("a print()", changesBy(sheet -> sheet.x.print()), 0);
+    }
+
     /** Terms 4: "The latest 50 that were not undone, and what was undone since the latest one" */
     private static void changes50() {
         for (int count : new int[] {1, 49, 50, 51, 54}) {
@@ -284,6 +319,36 @@ public final class CallBoundsTest {
         }
         Due.is("no more", both.x.undo(), STATE);
         Due.is("the first clear stands", both.x.formula(0, -1), 0);
+    }
+
+    /** Terms 4: "THE VALUE is that of the latest ask() that was not refused (..); in it one is AT HAND, at first .." */
+    private static void theValue() {
+        Sheet sheet = new Sheet().with("A0=[7[8]]", "A1='a", "A2=a3 1 0", "A3=f2a0r0 22r0 22", "A4=A4");
+        Due.is("at first", sheet.shown(), "[]");
+        Due.is("of an ask()", sheet.ask("A0"), "[7 [8]]");
+        Due.is("a part at hand", sheet.x.down(1), 3);
+        Due.is("a part at hand", sheet.shown(), "[8]");
+        Due.is("refused", sheet.x.ask(32), BAD);
+        Due.is("refused: the part", sheet.shown(), "[8]");
+        sheet.enter(0, "9");
+        sheet.x.clear(1);
+        sheet.x.undo();
+        Due.is("behind CHANGES: the part", sheet.shown(), "[8]");
+        Due.is("behind CHANGES: the value", sheet.x.top(), 3);
+        Due.is("behind CHANGES: the value", sheet.shown(), "[7 [8]]");
+        sheet.x.down(0);
+        Due.is("of the next ask(), itself", sheet.ask("A1"), "'a");
+        Due.is("of a failure", sheet.ask("A2"), "!3@A2:0");
+        Due.is("of one that was stopped", sheet.ask("A3"), "!7@A3:0");
+        Due.is("of one on a loop", sheet.ask("A4"), "!6@A4:0");
+        Due.is("of one without a formula", sheet.ask("D7"), "[]");
+        Due.is("of a remembered one", sheet.ask("A1"), "'a");
+        Sheet spent = spent();
+        String before = spent.shown();
+        Due.is("FULL", spent.x.ask(0), FULL);
+        Due.is("FULL: what was at hand", spent.shown(), before);
+        Due.is("FULL: the value", spent.x.top(), 3);
+        Due.is("FULL: the value", spent.shown(), "[7]");
     }
 
     /** Promise 8: both cells -1, 0, 31, 32; 0, 1, 2; 1 ahead of 2 */
@@ -580,7 +645,9 @@ public final class CallBoundsTest {
         p4();
         p5();
         p6p7();
+        whatIsAChange();
         changes50();
+        theValue();
         p8();
         p9();
         p10();
