@@ -49,6 +49,25 @@ public final class CallBoundsTest {
         return new Sheet().all();
     }
 
+    /** One whose tape is full and whose ask() have made 40000 steps: more than one refusal may be due. */
+    private static Sheet spentAndFull() {
+        Sheet sheet = spent();
+        sheet.type(" ".repeat(76));
+        return sheet;
+    }
+
+    /** "Refusals are answers, of several the first: BAD -1 .., STATE -2, FULL -3. What is refused changes nothing .." */
+    private static void refusals() {
+        Refused.by("type, FULL alone", FULL, CallBoundsTest::spentAndFull, x -> x.type(' ', 1));
+        Refused.by("type, BAD by n and FULL", BAD, CallBoundsTest::spentAndFull, x -> x.type(' ', 0));
+        Refused.by("type, BAD by a byte and FULL", BAD, CallBoundsTest::spentAndFull, x -> x.type(7, 1));
+        Refused.by("ask, FULL alone", FULL, CallBoundsTest::spentAndFull, x -> x.ask(0));
+        Refused.by("ask, BAD and FULL", BAD, CallBoundsTest::spentAndFull, x -> x.ask(32));
+        Refused.by("formula, BAD and NONE", BAD, CallBoundsTest::spentAndFull, x -> x.formula(32, 80));
+        Refused.by("undo, STATE alone", STATE, Sheet::new, NestSheet::undo);
+        Refused.by("redo, STATE alone", STATE, CallBoundsTest::spentAndFull, NestSheet::redo);
+    }
+
     /** Promise 1: "No CELL has a formula; THE TAPE, THE OUT are empty." */
     private static void p1() {
         NestSheet x = new NestSheet();
@@ -639,6 +658,7 @@ public final class CallBoundsTest {
     }
 
     public static void main(String[] args) {
+        refusals();
         p1();
         p2();
         p3();

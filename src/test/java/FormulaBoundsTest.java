@@ -35,6 +35,20 @@ public final class FormulaBoundsTest {
         failsAt(0, "");
     }
 
+    /** "read from the left": each FORM takes what it wants of those that come next */
+    private static void fromTheLeft() {
+        Due.value("a1 9 4", "5");
+        Due.value("a1 a1 9 4 1", "4");
+        Due.value("a1 9 a1 4 1", "6");
+        Due.value("[a1 9 4 1]", "[5 1]");
+        Due.value("[n0 9 4]", "[-9 4]");
+        Due.value("q0 1 a1 9 4 7", "5");
+        Due.value("i4[1 2]a1 1 1 n0 5", "[-5 2]");
+        Due.value("f0a1 9[1 f0a1 5[1 2]]", "6");
+        failsAt(0, "]7[");
+        failsAt(1, "7a1");
+    }
+
     /** "blanks (32) may stand ahead of each FORM, each ] and each OP, and at the end" */
     private static void blanks() {
         taken("  7");
@@ -337,6 +351,7 @@ public final class FormulaBoundsTest {
 
     public static void main(String[] args) {
         bytes();
+        fromTheLeft();
         blanks();
         digits();
         fractions();

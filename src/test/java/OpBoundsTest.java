@@ -365,6 +365,21 @@ public final class OpBoundsTest {
         Due.value("n7'a", "!1@A0:0");
     }
 
+    /** "KIND: other LEAVES": which of a WHOLE, a REAL, a SIGN each of the eight takes */
+    private static void kindsOfN() {
+        String[] leaves = {"97", "97.0", "'a"};
+        String[] taken = {"110", "110", "111", "010", "010", "100", "001", "100"};
+        for (int i = 0; i < taken.length; i++) {
+            for (int k = 0; k < leaves.length; k++) {
+                Sheet sheet = Due.asked("A0= n" + i + " " + leaves[k]);
+                boolean takes = taken[i].charAt(k) == '1';
+                Due.is("n" + i + " takes " + leaves[k], sheet.x.told(0) == 4 ? 0 : 1, takes ? 1 : 0);
+                Due.is("KIND of n" + i + " " + leaves[k], takes ? "" : sheet.shown(), takes ? "" : "!1@A0:1");
+                Due.value("n" + i + "[[" + leaves[k] + "]7 a3 1 0]", "!3@A0:" + (leaves[k].length() + 7));
+            }
+        }
+    }
+
     /** "of an ARRAY on each VALUE in it likewise" */
     private static void onArrays() {
         for (int i = 0; i <= 7; i++) {
@@ -688,6 +703,7 @@ public final class OpBoundsTest {
         n3();
         n4();
         n5n6n7();
+        kindsOfN();
         onArrays();
         s0s1s2();
         s3s4s5();

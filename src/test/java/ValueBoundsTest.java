@@ -5,6 +5,38 @@ public final class ValueBoundsTest {
     private static final String NAN = "#7ff8000000000000";
     private static final String ROW = "B0=r0 32";
 
+    private static void sort(int due, boolean leaf, String formula) {
+        Sheet sheet = Due.asked("A0=" + formula);
+        Due.is("the sort of " + formula, sheet.x.told(0), due);
+        // A leaf is what n2 takes itself; an array it goes into, and a failure it hands on.
+        Due.is("a leaf: " + formula, sheet.with("A1=n2 A0").x.ask(1) == 0 ? 1 : 0, leaf ? 1 : 0);
+    }
+
+    /** "VALUES are LEAVES, ARRAYS, FAILURES. A LEAF is a WHOLE (..), a REAL (..), or a SIGN (..)." */
+    private static void sorts() {
+        sort(0, true, "7");
+        sort(1, true, "7.0");
+        sort(2, true, "'7");
+        sort(3, false, "[7]");
+        sort(3, false, "[]");
+        sort(4, false, "a3 7 0");
+    }
+
+    /** "IN a VALUE are itself and all that are IN its VALUES" */
+    private static void in() {
+        Due.in(1, "A0=7");
+        Due.in(1, "A0=7.5");
+        Due.in(1, "A0='a");
+        Due.in(1, "A0=[]");
+        Due.in(2, "A0=[7]");
+        Due.in(2, "A0=[[]]");
+        Due.in(3, "A0=[7 7]");
+        Due.in(3, "A0=[[7]]");
+        Due.in(7, "A0=[7[8[]]'a 9]");
+        Due.in(5, "A1=[7 8]", "A0=[A1 6]");
+        Due.in(7, "A1=[7 8]", "A0=[A1 A1]");
+    }
+
     /** "A LEAF is a WHOLE (64 bits)" */
     private static void wholesOf64Bits() {
         Due.value(LOWEST, "-9223372036854775808");
@@ -215,6 +247,8 @@ public final class ValueBoundsTest {
     }
 
     public static void main(String[] args) {
+        sorts();
+        in();
         wholesOf64Bits();
         oneNan();
         signs();
